@@ -1,0 +1,26 @@
+/** Counts the calls whose answers are not as due, and ends the program with exit code 1 if there was one. */
+final class Due {
+    private final String name;
+    private int asked = 0;
+    private int wrong = 0;
+
+    Due(String name) {
+        this.name = name;
+    }
+
+    void is(String call, long got, long want) {
+        asked++;
+        if (got == want) return;
+        wrong++;
+        System.out.println(name + ": " + call + " answered " + got + ", due is " + want);
+    }
+
+    void holds(String what, boolean so) {
+        is(what, so ? 1 : 0, 1);
+    }
+
+    void end() {
+        System.out.println(name + ": " + asked + " answers, " + wrong + " not as due");
+        if (wrong != 0 || asked == 0) System.exit(1);
+    }
+}
