@@ -98,7 +98,6 @@ public final class PageLines {
         if (left < 0 || left > right || right >= COLUMNS) return OUTSIDE;
         if (!Numbers.within(slant, -TOP_SLANT, TOP_SLANT)) return OUTSIDE;
         if (scan.on) return STATE;
-        if (page.patches >= PATCHES) return FULL;
         return page.lay(from, to, left, right, slant);
     }
 
@@ -149,9 +148,7 @@ public final class PageLines {
     public int pipe(int kind, int n) {
         if (!Pipe.isStep(kind, n)) return OUTSIDE;
         if (scan.on) return STATE;
-        if (steps.count >= STEPS) return FULL;
-        steps.addStep(kind, n);
-        return steps.count;
+        return steps.addStep(kind, n);
     }
 
     public int unpipe(int k) {
@@ -451,9 +448,10 @@ public final class PageLines {
         final int[] tints = new int[PATCHES * COLOURS];
         final int[] specks = new int[COLUMNS];
 
+        /** The number of the PATCH that came; FULL. */
         int lay(int from, int to, int left, int right, int slant) {
             int p = patches;
-            if (p < 0 || p >= PATCHES) return FULL;
+            if (p >= PATCHES) return FULL;
             firstRow[p] = from;
             lastRow[p] = to;
             firstColumn[p] = left;
@@ -503,15 +501,16 @@ public final class PageLines {
             }
         }
 
-        void addStep(int kind, int n) {
-            if (count < 0 || count >= STEPS) return;
+        /** How many STEPS there are then; FULL. */
+        int addStep(int kind, int n) {
+            if (count >= STEPS) return FULL;
             kinds[count] = kind;
             numbers[count] = n;
             count++;
+            return count;
         }
 
         void dropStep(int k) {
-            if (k < 0 || k >= count) return;
             for (int i = k; i + 1 < count; i++) {
                 kinds[i] = kinds[i + 1];
                 numbers[i] = numbers[i + 1];

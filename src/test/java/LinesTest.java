@@ -239,6 +239,8 @@ public final class LinesTest {
         x.patch(0, 20, 2, 4, 8);
         scan(x, 5);
         skew("a column a line", x, 1, 1);
+        scan(x, 2);
+        skew("two lines, in least terms as they are", x, 1, 1);
         x.blank();
         x.patch(0, 20, 2, 4, 4);
         scan(x, 4);
@@ -378,8 +380,15 @@ public final class LinesTest {
         for (int k = 0; k < 12; k++) DUE.is("30 a step is no streak " + k, x.longest(k), 0);
         DUE.is("31 a step is no streak", x.streaks(), 0);
         x.blank();
-        lay(x, 0, 9, 0, 0, 0, 10);
+        lay(x, 0, 9, 5, 6, 0, 50);
+        scan(x, 5);
+        DUE.is("30 two side by side, the left", x.longest(5), 0);
+        DUE.is("30 two side by side, the right", x.longest(6), 0);
+        x.blank();
         lay(x, 0, 9, 11, 11, 0, 10);
+        scan(x, 5);
+        DUE.is("30 column 11 alone", x.longest(11), 0);
+        lay(x, 0, 9, 0, 0, 0, 10);
         scan(x, 5);
         DUE.is("30 column 0", x.longest(0), 0);
         DUE.is("30 column 11", x.longest(11), 0);

@@ -148,7 +148,7 @@ public final class PageTest {
         DUE.is("10 none", x.blank(), 0);
         x.patch(0, 5, 0, 11, 0);
         x.patch(0, 5, 0, 11, 0);
-        x.tint(0, 1, 99);
+        for (int colour = 0; colour < 3; colour++) x.tint(0, colour, 99);
         x.begin(1);
         DUE.is("10 state", x.blank(), STATE);
         x.stop();
@@ -157,7 +157,7 @@ public final class PageTest {
         DUE.is("10 the ground is seen", x.light(1, 0, 0, 0), 255);
         DUE.is("10 unknown then", x.tint(0, 1, 1), UNKNOWN);
         DUE.is("10 numbers from 0 again", x.patch(0, 5, 0, 11, 0), 0);
-        DUE.is("10 tints are 0 again", x.tint(0, 1, 1), 0);
+        for (int colour = 0; colour < 3; colour++) DUE.is("10 tints are 0 again", x.tint(0, colour, 1), 0);
         x.ground(7);
         x.blank();
         DUE.is("10 the ground stays", x.light(0, 0, 0, 0), 7);
