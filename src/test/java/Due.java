@@ -10,9 +10,12 @@ final class Due {
 
     void is(String call, long got, long want) {
         asked++;
-        if (got == want) return;
-        wrong++;
-        System.out.println(name + ": " + call + " answered " + got + ", due is " + want);
+        if (got != want) tell(call, String.valueOf(got), String.valueOf(want));
+    }
+
+    void same(String call, String got, String want) {
+        asked++;
+        if (!got.equals(want)) tell(call, got, want);
     }
 
     void holds(String what, boolean so) {
@@ -22,5 +25,10 @@ final class Due {
     void end() {
         System.out.println(name + ": " + asked + " answers, " + wrong + " not as due");
         if (wrong != 0 || asked == 0) System.exit(1);
+    }
+
+    private void tell(String call, String got, String want) {
+        wrong++;
+        System.out.println(name + ": " + call + " answered " + got + ", due is " + want);
     }
 }
