@@ -429,9 +429,9 @@ public final class ScanBoundsTest {
         PageLines x = new PageLines();
         x.lead(1, lead);
         x.begin(n);
-        for (int i = 0; i < 20; i++) {
+        for (int i = 0; i < 12; i++) {
             x.ticks(60);
-            while (x.head(3) > left && x.head(2) < n + x.head(7)) x.take();
+            for (int j = 0; j < 6 && x.head(3) > left; j++) x.take();
         }
         DUE.is("22 all are read", x.head(2), n + x.head(7));
         return x.head(4);
