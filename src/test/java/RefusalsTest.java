@@ -47,6 +47,8 @@ public final class RefusalsTest {
             for (Call call : scans(scene)) allMixtures(scene, call, untouched);
             for (Call call : pipes(scene)) allMixtures(scene, call, untouched);
             for (Call call : lines(scene)) allMixtures(scene, call, untouched);
+            allPatches(scene, untouched);
+            allSteps(scene, untouched);
         }
         DUE.end();
     }
@@ -147,11 +149,40 @@ public final class RefusalsTest {
             new Call("32 many", (x, a) -> x.many(a[0]), TAKEN, outside(0, 5)));
     }
 
-    private static int[] boundaries(Limit limit, boolean withFar) {
+    /** All five arguments at once; rows and columns also in the wrong order. */
+    private static void allPatches(Scene s, long[] untouched) {
+        int elseRefusal = s.on() ? STATE : s.patches() == 12 ? FULL : TAKEN;
+        int[] rows = {-1, 0, 63, 64}, columns = {-1, 0, 11, 12}, slants = {-17, -16, 16, 17};
+        for (int i = 0; i < 1024; i++) {
+            int[] a = {rows[i & 3], rows[i >> 2 & 3], columns[i >> 4 & 3], columns[i >> 6 & 3], slants[i >> 8]};
+            boolean rowsAreRight = 0 <= a[0] && a[0] <= a[1] && a[1] <= 63;
+            boolean columnsAreRight = 0 <= a[2] && a[2] <= a[3] && a[3] <= 11;
+            boolean right = rowsAreRight && columnsAreRight && Math.abs(a[4]) <= 16;
+            PageLines x = s.make();
+            long got = x.patch(a[0], a[1], a[2], a[3], a[4]);
+            judge(s.name() + ": 8 patch" + Arrays.toString(a), x, got, right ? elseRefusal : OUTSIDE, untouched);
+        }
+    }
+
+    private static void allSteps(Scene s, long[] untouched) {
+        int elseRefusal = s.on() ? STATE : s.steps() == 4 ? FULL : TAKEN;
+        for (int kind = -1; kind <= 4; kind++) {
+            for (int n : new int[] {-256, -255, -1, 0, 255, 256}) {
+                boolean right = kind == 0
+                    || kind == 2 && n != -256 && n != 256
+                    || (kind == 1 || kind == 3) && (n == 0 || n == 255);
+                PageLines x = s.make();
+                long got = x.pipe(kind, n);
+                judge(s.name() + ": 14 pipe " + kind + " " + n, x, got, right ? elseRefusal : OUTSIDE, untouched);
+            }
+        }
+    }
+
+    private static int[] boundaries(Limit limit) {
         TreeSet<Integer> numbers = new TreeSet<>(List.of(limit.least, limit.most));
         if (limit.least > Integer.MIN_VALUE) numbers.add(limit.least - 1);
         if (limit.most < Integer.MAX_VALUE) numbers.add(limit.most + 1);
-        if (withFar) numbers.addAll(List.of(Integer.MIN_VALUE, Integer.MAX_VALUE));
+        numbers.addAll(List.of(Integer.MIN_VALUE, Integer.MAX_VALUE));
         return numbers.stream().mapToInt(Integer::intValue).toArray();
     }
 
@@ -161,7 +192,7 @@ public final class RefusalsTest {
         for (Limit limit : call.limits) {
             List<int[]> longer = new ArrayList<>();
             for (int[] ahead : mixtures) {
-                for (int v : boundaries(limit, call.limits.length < 4)) {
+                for (int v : boundaries(limit)) {
                     int[] more = Arrays.copyOf(ahead, ahead.length + 1);
                     more[ahead.length] = v;
                     longer.add(more);
@@ -173,10 +204,12 @@ public final class RefusalsTest {
     }
 
     private static void oneMixture(Scene scene, Call call, int[] a, long[] untouched) {
-        String what = scene.name() + ": " + call.name + Arrays.toString(a);
         PageLines x = scene.make();
         long got = call.answer.of(x, a);
-        long due = call.due(a);
+        judge(scene.name() + ": " + call.name + Arrays.toString(a), x, got, call.due(a), untouched);
+    }
+
+    private static void judge(String what, PageLines x, long got, long due, long[] untouched) {
         if (due == TAKEN) {
             DUE.holds(what + " is taken, not " + got, got >= 0 || got == NONE);
             return;
