@@ -1,11 +1,16 @@
 /** Counts the calls whose answers are not as due, and ends the program with exit code 1 if there was one. */
 final class Due {
+    private static final int MOST_SECONDS = 300;
+
     private final String name;
     private int asked = 0;
     private int wrong = 0;
 
     Due(String name) {
         this.name = name;
+        Thread watch = new Thread(this::endIfStuck);
+        watch.setDaemon(true);
+        watch.start();
     }
 
     void is(String call, long got, long want) {
@@ -30,5 +35,16 @@ final class Due {
     private void tell(String call, String got, String want) {
         wrong++;
         System.out.println(name + ": " + call + " answered " + got + ", due is " + want);
+    }
+
+    /** A call that never ends is wrong, too: without this the test would never tell so. */
+    private void endIfStuck() {
+        try {
+            Thread.sleep(1000L * MOST_SECONDS);
+        } catch (InterruptedException ended) {
+            return;
+        }
+        System.out.println(name + ": no end within " + MOST_SECONDS + " seconds");
+        Runtime.getRuntime().halt(1);
     }
 }

@@ -102,8 +102,7 @@ public final class FaceTest {
     }
 
     private static void source() throws IOException {
-        String path = System.getProperty("pagelines.source", "src/main/java/PageLines.java");
-        String text = Files.readString(Path.of(path), StandardCharsets.UTF_8);
+        String text = Files.readString(Path.of("src/main/java/PageLines.java"), StandardCharsets.UTF_8);
         for (int i = 0; i < text.length(); i++) {
             if (text.charAt(i) > 126) DUE.holds("plain signs only, at " + i, false);
         }
