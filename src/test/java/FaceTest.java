@@ -6,8 +6,12 @@ import java.lang.reflect.Modifier;
 import java.nio.charset.StandardCharsets;
 import java.nio.file.Files;
 import java.nio.file.Path;
+import java.util.ArrayList;
 import java.util.Arrays;
+import java.util.List;
+import java.util.Map;
 import java.util.Set;
+import java.util.TreeMap;
 import java.util.TreeSet;
 import java.util.regex.Matcher;
 import java.util.regex.Pattern;
@@ -98,6 +102,15 @@ public final class FaceTest {
                 DUE.holds("no static state: " + f, !isStatic || Modifier.isFinal(f.getModifiers()));
             }
             DUE.holds(c + " has some twenty fields", own <= 20);
+            fewParameters(c);
+        }
+        fewParameters(PageLines.class);
+    }
+
+    private static void fewParameters(Class<?> c) {
+        for (Method m : c.getDeclaredMethods()) DUE.holds("seven parameters at most: " + m, m.getParameterCount() <= 7);
+        for (Constructor<?> m : c.getDeclaredConstructors()) {
+            DUE.holds("seven parameters at most: " + m, m.getParameterCount() <= 7);
         }
     }
 
@@ -114,18 +127,48 @@ public final class FaceTest {
         DUE.holds("no lambda", !code.contains("->"));
         DUE.holds("no method reference", !code.contains("::"));
         DUE.holds("no name that ends in Exact", !code.contains("Exact"));
-        methodsAreShort(code);
+        Map<String, List<String>> methods = methods(code);
+        DUE.holds("the methods are found", methods.size() > METHODS.length);
+        methodsAreShort(methods);
+        callsAreNotDeep(methods);
     }
 
     /** By the layout of the file: a method begins at 4 or 8 blanks and ends with a brace there. */
-    private static void methodsAreShort(String code) {
+    private static Map<String, List<String>> methods(String code) {
+        Map<String, List<String>> found = new TreeMap<>();
         String[] lines = code.split("\n", -1);
         for (int i = 0; i < lines.length; i++) {
-            Matcher start = Pattern.compile("^( {4}| {8})[a-z][^=;]*\\) \\{$").matcher(lines[i]);
+            Matcher start = Pattern.compile("^( {4}| {8})\\w[^=;(]*?(\\w+)\\([^=;]*\\) \\{$").matcher(lines[i]);
             if (!start.find()) continue;
-            int length = 1;
-            while (i + length < lines.length && !lines[i + length].equals(start.group(1) + "}")) length++;
-            DUE.holds("a short method at line " + (i + 1), length <= 60);
+            List<String> body = new ArrayList<>();
+            for (int j = i + 1; j < lines.length && !lines[j].equals(start.group(1) + "}"); j++) body.add(lines[j]);
+            DUE.holds("no two methods are named " + start.group(2), found.put(start.group(2), body) == null);
         }
+        return found;
+    }
+
+    private static void methodsAreShort(Map<String, List<String>> methods) {
+        for (Map.Entry<String, List<String>> m : methods.entrySet()) {
+            DUE.holds(m.getKey() + " is short", m.getValue().size() <= 60);
+        }
+    }
+
+    private static void callsAreNotDeep(Map<String, List<String>> methods) {
+        for (String name : methods.keySet()) {
+            DUE.holds("calls from " + name + " go at most eight deep", depth(methods, name, 1) <= 8);
+        }
+    }
+
+    /** The most calls that stand open at once, if this one is at a level; a recursion goes too deep. */
+    private static int depth(Map<String, List<String>> methods, String name, int level) {
+        if (level > 20 || !methods.containsKey(name)) return level;
+        int most = level;
+        Matcher call = Pattern.compile("\\b(\\w+)\\(").matcher(String.join("\n", methods.get(name)));
+        while (call.find()) {
+            if (!call.group(1).matches("if|for|while|switch|return")) {
+                most = Math.max(most, depth(methods, call.group(1), level + 1));
+            }
+        }
+        return most;
     }
 }
